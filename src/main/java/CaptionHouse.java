@@ -36,6 +36,7 @@ public final class CaptionHouse {
     private static final int SPACE = 32;
     private static final int DASH = 45;
     private static final int NOTE = 9834;
+    private static final int NO_STOP_COST = 5;
 
     private static final int SECOND = 25;
     private static final int HANG_PLACES = 12;
@@ -540,8 +541,9 @@ public final class CaptionHouse {
     private int brokenRules(int caption, int tongue) {
         int text = textOf(caption, tongue);
         boolean isIn = times.isIn(caption);
+        layout.divide(texts, text, rowWidth);
         int set = texts.size(text) == 0 ? bit(EMPTY) : 0;
-        set |= isWide(text) ? bit(WIDE) : 0;
+        set |= layout.count() > 2 || layout.widest() > rowWidth ? bit(WIDE) : 0;
         set |= isIn && SECOND * textWidth(text) > speed * times.length(caption) ? bit(FAST) : 0;
         set |= isIn && hangs(caption) ? bit(HANG) : 0;
         set |= isIn && isClose(caption) ? bit(CLOSE) : 0;
@@ -549,11 +551,6 @@ public final class CaptionHouse {
         set |= isIn ? 0 : bit(OUT);
         set |= item(looks, caption) == TWO && lacksVoices(text) ? bit(VOICES) : 0;
         return set;
-    }
-
-    private boolean isWide(int text) {
-        layout.divide(texts, text, rowWidth);
-        return layout.count() > 2 || layout.widest() > rowWidth;
     }
 
     private boolean hangs(int caption) {
@@ -708,16 +705,13 @@ public final class CaptionHouse {
     private static final class Film {
         private final int[] keys = new int[FILM_FRAMES];
         private final int[] lifted = new int[FILM_FRAMES];
+        /** By key: the place of a frame; NONE if it is in the bin. */
         private final int[] places = new int[KEYS];
         /** By key: the set of the captions that lie on this frame, in the film or not. */
         private final int[] marks = new int[KEYS];
         private final int[] lengths = new int[SHOTS];
         private int shotCount;
         private int size;
-
-        Film() {
-            Arrays.fill(places, NONE);
-        }
 
         int shots() {
             return shotCount;
@@ -912,7 +906,7 @@ public final class CaptionHouse {
 
         /** A sign of a text; 0 where the text has none. */
         int sign(int text, int index) {
-            return index >= 0 && index < size(text) ? item(signs, text * TEXT_SIGNS + index) : 0;
+            return index >= 0 && index < item(sizes, text) ? item(signs, text * TEXT_SIGNS + index) : 0;
         }
 
         void append(int text, int sign) {
@@ -1083,11 +1077,11 @@ public final class CaptionHouse {
             int best = NONE;
             int least = 0;
             for (int i = first + 1; i < end - 1; i++) {
-                int left = widthBetween(first, i);
-                int right = widthBetween(i + 1, end);
-                if (texts.sign(text, i) == SPACE && left <= rowWidth && right <= rowWidth) {
-                    int cost = Math.abs(left - right) + (isStop(texts.sign(text, i - 1)) ? 0 : 5);
-                    if (best == NONE || cost < least) {
+                if (texts.sign(text, i) == SPACE) {
+                    int left = widthBetween(first, i);
+                    int right = widthBetween(i + 1, end);
+                    int cost = Math.abs(left - right) + (isStop(texts.sign(text, i - 1)) ? 0 : NO_STOP_COST);
+                    if (left <= rowWidth && right <= rowWidth && (best == NONE || cost < least)) {
                         best = i;
                         least = cost;
                     }

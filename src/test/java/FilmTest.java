@@ -127,6 +127,9 @@ final class FilmTest {
         Checks.noIndex(house, "move(3, MAX, 0)", () -> house.move(3, Integer.MAX_VALUE, 0));
         Checks.noIndex(house, "move(0, 2, 4)", () -> house.move(0, 2, 4));
         Checks.noIndex(house, "move(0, 2, -1)", () -> house.move(0, 2, -1));
+        Checks.noIndex(house, "move(0, 1, 5)", () -> house.move(0, 1, 5));
+        Checks.noIndex(house, "move(4, 1, -1)", () -> house.move(4, 1, -1));
+        Checks.noIndex(house, "move(0, 5, 1)", () -> house.move(0, 5, 1));
         Checks.noArgument(house, "move(0, 0, 9)", () -> house.move(0, 0, 9));
         Checks.noArgument(house, "move(4, MIN, -1)", () -> house.move(4, Integer.MIN_VALUE, -1));
     }

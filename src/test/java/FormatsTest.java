@@ -114,6 +114,11 @@ final class FormatsTest {
 
     private static void refused() {
         CaptionHouse house = house(0, 24, "one");
+        Checks.due("a char, before its length is asked for", house.writtenChar(1, 0, 7), 'o');
+        Checks.due("a char of the other format", house.writtenChar(0, 0, 0), '1');
+        house.erase(0, 0);
+        Checks.due("a char of another text", (int) house.writtenChar(1, 0, 9), 10);
+        Checks.noIndex(house, "writtenChar of another tongue", () -> house.writtenChar(1, 2, 0));
         int last = house.written(1, 0) - 1;
         Checks.due("the last char", (int) house.writtenChar(1, 0, last), 10);
         for (int index : new int[] {-1, last + 1, Integer.MIN_VALUE, Integer.MAX_VALUE}) {

@@ -54,8 +54,11 @@ final class RandomRunsTest {
             int frames = 1 + random.nextInt(shotFrames);
             same("addShot(" + frames + ")", () -> house.addShot(frames), () -> plain.addShot(frames));
         }
-        for (int i = kind == 1 ? 5 : random.nextInt(3); i > 0; i--) {
+        for (int i = kind == 1 ? 5 : kind == 3 ? 14 : random.nextInt(3); i > 0; i--) {
             add();
+        }
+        if (kind == 0 && random.nextBoolean()) {
+            return;
         }
         int width = kind == 2 ? 5 + random.nextInt(4) : 5 + random.nextInt(20);
         same("setLimits(" + width + ", 30)", () -> house.setLimits(width, 30), () -> plain.setLimits(width, 30));
@@ -250,7 +253,9 @@ final class RandomRunsTest {
         int format = below(2);
         int tongue = below(3);
         String of = "(" + format + ", " + tongue;
-        same("written" + of + ")", () -> house.written(format, tongue), () -> plain.written(format, tongue));
+        if (random.nextBoolean()) {
+            same("written" + of + ")", () -> house.written(format, tongue), () -> plain.written(format, tongue));
+        }
         for (int i = 0; i < 4; i++) {
             int index = below(120);
             same("writtenChar" + of + ", " + index + ")", () -> house.writtenChar(format, tongue, index), () -> plain.writtenChar(format, tongue, index));

@@ -86,6 +86,12 @@ final class RulesTest {
         Checks.due("100 of 57", breaks(house, 0, 0, CaptionHouse.FAST), true);
         house.cut(0, 3);
         Checks.due("one that is out", breaks(house, 0, 0, CaptionHouse.FAST), false);
+        CaptionHouse atFirst = film(25);
+        atFirst.add(0, 25);
+        TextsTest.type(atFirst, 0, 0, "fifteen signs..");
+        Checks.due("375 of 375 at first", breaks(atFirst, 0, 0, CaptionHouse.FAST), false);
+        atFirst.type(0, 0, '.');
+        Checks.due("400 of 375 at first", breaks(atFirst, 0, 0, CaptionHouse.FAST), true);
     }
 
     private static boolean hangs(int from, int count) {

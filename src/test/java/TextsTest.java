@@ -149,8 +149,9 @@ final class TextsTest {
             Checks.due("behind " + stop, rows(typed("ab" + stop + " efgh jklm")), "3 413");
         }
         Checks.due("no stop", rows(typed("ab- efgh jklm")), "8 913");
-        Checks.due("5 more is as dear: the first one", rows(typed("abcde, h jk")), "6 711");
-        Checks.due("the same cost: the first one", rows(typed("abcd fg ijk")), "4 511");
+        Checks.due("4 more behind a stop is cheaper than 5", rows(typed("abcdef g, jklm")), "9 1014");
+        Checks.due("6 more behind a stop is dearer than 5", rows(typed("ab, cd efghijk")), "6 714");
+        Checks.due("the same cost: the first one", rows(typed("abcd f hijk")), "4 511");
         Checks.due("each part for itself", rows(typed("aaaaaa aaaaaa\nbb\nccccc cccccc")), "6 713 1416 1722 2329");
     }
 
@@ -171,8 +172,10 @@ final class TextsTest {
 
     private static void notSplit() {
         Checks.due("no space", rows(typed("abcdefghijk")), "11");
-        Checks.due("nothing ahead of it", rows(typed(" bcdefghijkl")), "12");
-        Checks.due("nothing behind it", rows(typed("abcdefghijk ")), "12");
+        Checks.due("nothing ahead of it", rows(typed(" bcdefghijk")), "11");
+        Checks.due("nothing behind it", rows(typed("abcdefghij ")), "11");
+        Checks.due("one sign ahead of it", rows(typed("a cdefghijkl")), "1 212");
+        Checks.due("one sign behind it", rows(typed("abcdefghij l")), "10 1112");
         Checks.due("too wide behind it", rows(typed("ab defghijklmn")), "14");
         Checks.due("too wide ahead of it", rows(typed("abcdefghijk mn")), "14");
         Checks.due("both just fit", rows(typed("abcdefghij lmnopqrstu")), "10 1121");
@@ -180,6 +183,9 @@ final class TextsTest {
 
     private static void wrongRows() {
         CaptionHouse house = typed("ab\ncd");
+        Checks.due("rows of one text", house.rows(0, 0), 2);
+        Checks.due("rows of another text", house.rows(0, 1), 0);
+        Checks.due("a row behind rows of another text", house.row(0, 0, 1), 305);
         Checks.noIndex(house, "row(0, 0, 2)", () -> house.row(0, 0, 2));
         Checks.noIndex(house, "row(0, 0, -1)", () -> house.row(0, 0, -1));
         Checks.noIndex(house, "row(0, 0, MAX)", () -> house.row(0, 0, Integer.MAX_VALUE));
