@@ -125,6 +125,8 @@ final class FormatsTest {
             Checks.noIndex(house, "writtenChar at " + index, () -> house.writtenChar(1, 0, index));
         }
         Checks.noIndex(house, "writtenChar of an empty page", () -> house.writtenChar(1, 1, 0));
+        house.add(0, 24);
+        house.type(1, 0, 'x');
         for (int wrong : new int[] {-1, 3, Integer.MIN_VALUE, Integer.MAX_VALUE}) {
             Checks.noArgument(house, "written in no format", () -> house.written(wrong, 0));
             Checks.noArgument(house, "written in no format and tongue", () -> house.written(wrong, wrong));

@@ -138,6 +138,8 @@ final class TonguesTest {
         Checks.due("a stale one", text(house, 4, 1), "x");
         Checks.due("not stale any more", house.isStale(4, 1), false);
         Checks.due("fill(1) again", house.fill(1), 0);
+        house.erase(1, 1);
+        Checks.due("one that was erased", house.fill(1) + " " + text(house, 1, 1), "1 x");
         Checks.due("fill(2)", house.fill(2), 0);
         Checks.due("memory(1)", house.memory(1), 1);
     }
