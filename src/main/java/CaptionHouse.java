@@ -1138,7 +1138,7 @@ public final class CaptionHouse {
         }
 
         private void writeUnit(int unit) {
-            if (length < chars.length) {
+            if (length >= 0 && length < chars.length) {
                 chars[length] = (char) unit;
                 length++;
             }

@@ -17,32 +17,21 @@ final class CaptionsTest {
         Checks.end("CaptionsTest");
     }
 
-    private static CaptionHouse film(int frames) {
-        CaptionHouse house = new CaptionHouse();
-        house.addShot(frames);
-        return house;
-    }
-
-    private static String time(CaptionHouse house, int caption) {
-        Checks.due("startByFrames", house.startByFrames(caption), house.startOf(caption));
-        return house.startOf(caption) + "+" + house.lengthOf(caption);
-    }
-
     private static void add() {
-        CaptionHouse house = film(300);
+        CaptionHouse house = Houses.film(300);
         for (int caption = 0; caption < 16; caption++) {
             Checks.due("add", house.add(caption, caption == 7 ? 250 : caption + 1), caption);
             Checks.due("captions()", house.captions(), caption + 1);
         }
-        Checks.due("time of 7", time(house, 7), "7+250");
-        Checks.due("time of 15", time(house, 15), "15+16");
+        Checks.due("time of 7", Houses.time(house, 7), "7+250");
+        Checks.due("time of 15", Houses.time(house, 15), "15+16");
         Checks.noState(house, "add(0, 1)", () -> house.add(0, 1));
         Checks.noArgument(house, "add(0, 0) of 16", () -> house.add(0, 0));
         Checks.noIndex(house, "add(300, 0) of 16", () -> house.add(300, 0));
     }
 
     private static void addRefused() {
-        CaptionHouse house = film(300);
+        CaptionHouse house = Houses.film(300);
         Checks.noIndex(house, "add(-1, 1)", () -> house.add(-1, 1));
         Checks.noIndex(house, "add(300, 1)", () -> house.add(300, 1));
         Checks.noIndex(house, "add(300, 251)", () -> house.add(300, 251));
@@ -56,14 +45,14 @@ final class CaptionsTest {
     }
 
     private static void lay() {
-        CaptionHouse house = film(100);
+        CaptionHouse house = Houses.film(100);
         house.add(10, 5);
         Checks.due("lay(0, 12, 20)", house.lay(0, 12, 20), 10);
-        Checks.due("time", time(house, 0), "12+20");
+        Checks.due("time", Houses.time(house, 0), "12+20");
         house.cut(0, 40);
         Checks.due("lay(0, 0, 3) of one that is out", house.lay(0, 0, 3), CaptionHouse.NONE);
         house.putBack(0, 0, 40, 0);
-        Checks.due("only the new frames count", time(house, 0), "40+3");
+        Checks.due("only the new frames count", Houses.time(house, 0), "40+3");
         house.letGo(0, 0, CaptionHouse.EMPTY, 5);
         house.letGo(0, 2, CaptionHouse.EMPTY, 6);
         Checks.due("lay at the same place", house.lay(0, 40, 3), 40);
@@ -71,7 +60,7 @@ final class CaptionsTest {
     }
 
     private static void layRefused() {
-        CaptionHouse house = film(300);
+        CaptionHouse house = Houses.film(300);
         house.add(10, 5);
         house.letGo(0, 0, CaptionHouse.EMPTY, 5);
         Checks.noIndex(house, "lay(1, 0, 1)", () -> house.lay(1, 0, 1));
@@ -84,7 +73,7 @@ final class CaptionsTest {
     }
 
     private static void setLook() {
-        CaptionHouse house = film(100);
+        CaptionHouse house = Houses.film(100);
         house.add(0, 50);
         house.letGo(0, 1, CaptionHouse.EMPTY, 5);
         Checks.due("setLook(0, SPEECH)", house.setLook(0, CaptionHouse.SPEECH), CaptionHouse.SPEECH);
@@ -101,46 +90,46 @@ final class CaptionsTest {
     }
 
     private static void longestRun() {
-        CaptionHouse house = film(100);
+        CaptionHouse house = Houses.film(100);
         house.add(20, 30);
         house.cut(30, 5);
-        Checks.due("a gap closes", time(house, 0), "20+25");
+        Checks.due("a gap closes", Houses.time(house, 0), "20+25");
         house.move(0, 10, 25);
-        Checks.due("the longer run", time(house, 0), "10+15");
+        Checks.due("the longer run", Houses.time(house, 0), "10+15");
         house.putBack(0, 30, 5, 40);
-        Checks.due("of the same length, but later", time(house, 0), "10+15");
+        Checks.due("of the same length, but later", Houses.time(house, 0), "10+15");
         house.cut(24, 1);
-        Checks.due("longer now", time(house, 0), "34+15");
+        Checks.due("longer now", Houses.time(house, 0), "34+15");
     }
 
     private static void earliestRun() {
-        CaptionHouse house = film(60);
+        CaptionHouse house = Houses.film(60);
         house.add(10, 20);
         house.move(40, 10, 20);
-        Checks.due("of two runs the earliest", time(house, 0), "10+10");
+        Checks.due("of two runs the earliest", Houses.time(house, 0), "10+10");
         house.cut(10, 1);
-        Checks.due("the second one is longer", time(house, 0), "29+10");
+        Checks.due("the second one is longer", Houses.time(house, 0), "29+10");
         house.putBack(0, 10, 1, 0);
-        Checks.due("a third one", time(house, 0), "30+10");
+        Checks.due("a third one", Houses.time(house, 0), "30+10");
         house.move(30, 10, 1);
-        Checks.due("joined", time(house, 0), "0+11");
+        Checks.due("joined", Houses.time(house, 0), "0+11");
     }
 
     private static void out() {
-        CaptionHouse house = film(60);
+        CaptionHouse house = Houses.film(60);
         house.add(10, 3);
         house.cut(10, 3);
-        Checks.due("out", time(house, 0), "-1+0");
+        Checks.due("out", Houses.time(house, 0), "-1+0");
         house.addShot(20);
-        Checks.due("still out", time(house, 0), "-1+0");
+        Checks.due("still out", Houses.time(house, 0), "-1+0");
         house.putBack(0, 12, 1, 57);
-        Checks.due("in again", time(house, 0), "57+1");
+        Checks.due("in again", Houses.time(house, 0), "57+1");
         house.putBack(0, 10, 2, 58);
-        Checks.due("in any order", time(house, 0), "57+3");
+        Checks.due("in any order", Houses.time(house, 0), "57+3");
     }
 
     private static void wrongCaptions() {
-        CaptionHouse house = film(60);
+        CaptionHouse house = Houses.film(60);
         house.add(10, 3);
         for (int caption : new int[] {-1, 1, 16, Integer.MIN_VALUE, Integer.MAX_VALUE}) {
             Checks.noIndex(house, "startOf", () -> house.startOf(caption));
@@ -150,7 +139,7 @@ final class CaptionsTest {
     }
 
     private static void inOrder() {
-        CaptionHouse house = film(100);
+        CaptionHouse house = Houses.film(100);
         house.add(30, 5);
         house.add(10, 5);
         house.add(30, 9);

@@ -4,15 +4,25 @@ import java.util.concurrent.Callable;
 final class Checks {
     private static int asked = 0;
     private static int wrong = 0;
+    private static String about = "";
 
     private Checks() {
+    }
+
+    /** What is told ahead of each wrong answer from now on. */
+    static void about(String text) {
+        about = text;
+    }
+
+    static int asked() {
+        return asked;
     }
 
     static void due(String what, Object got, Object want) {
         asked++;
         if (!String.valueOf(got).equals(String.valueOf(want))) {
             wrong++;
-            System.out.println(what + ": answered " + got + ", due is " + want);
+            System.out.println(about + what + ": answered " + got + ", due is " + want);
         }
     }
 

@@ -17,22 +17,6 @@ final class FilmTest {
         Checks.end("FilmTest");
     }
 
-    private static CaptionHouse shots(int... frames) {
-        CaptionHouse house = new CaptionHouse();
-        for (int count : frames) {
-            house.addShot(count);
-        }
-        return house;
-    }
-
-    private static String film(CaptionHouse house) {
-        StringBuilder text = new StringBuilder();
-        for (int place = 0; place < house.frames(); place++) {
-            text.append(place > 0 ? " " : "").append(house.frameAt(place));
-        }
-        return text.toString();
-    }
-
     private static void newHouse() {
         CaptionHouse house = new CaptionHouse();
         Checks.due("frames()", house.frames(), 0);
@@ -66,27 +50,27 @@ final class FilmTest {
         Checks.due("frameAt(4400)", house.frameAt(4400), 11399);
         Checks.noState(house, "addShot(1)", () -> house.addShot(1));
         Checks.noArgument(house, "addShot(401) of 12 shots", () -> house.addShot(401));
-        CaptionHouse cut = shots(3);
+        CaptionHouse cut = Houses.film(3);
         cut.cut(1, 1);
         Checks.due("addShot(2)", cut.addShot(2), 1);
-        Checks.due("a new shot at the end", film(cut), "0 2 1000 1001");
+        Checks.due("a new shot at the end", Houses.frames(cut), "0 2 1000 1001");
     }
 
     private static void cut() {
-        CaptionHouse house = shots(4, 3);
+        CaptionHouse house = Houses.film(4, 3);
         Checks.due("cut(3, 2)", house.cut(3, 2), 5);
-        Checks.due("film", film(house), "0 1 2 1001 1002");
+        Checks.due("film", Houses.frames(house), "0 1 2 1001 1002");
         Checks.due("placeOf(0, 3)", house.placeOf(0, 3), CaptionHouse.NONE);
         Checks.due("placeOf(1, 1)", house.placeOf(1, 1), 3);
         Checks.due("cut(4, 1)", house.cut(4, 1), 4);
         Checks.due("cut(0, 1)", house.cut(0, 1), 3);
-        Checks.due("film", film(house), "1 2 1001");
+        Checks.due("film", Houses.frames(house), "1 2 1001");
         Checks.due("cut(0, 3)", house.cut(0, 3), 0);
         Checks.due("frames()", house.frames(), 0);
     }
 
     private static void cutRefused() {
-        CaptionHouse house = shots(4);
+        CaptionHouse house = Houses.film(4);
         house.add(1, 2);
         Checks.noIndex(house, "cut(-1, 1)", () -> house.cut(-1, 1));
         Checks.noIndex(house, "cut(4, 1)", () -> house.cut(4, 1));
@@ -99,27 +83,27 @@ final class FilmTest {
     }
 
     private static void move() {
-        CaptionHouse house = shots(6);
+        CaptionHouse house = Houses.film(6);
         house.add(0, 2);
         house.add(1, 4);
         house.add(5, 1);
         Checks.due("move(0, 2, 4)", house.move(0, 2, 4), 3);
-        Checks.due("film", film(house), "2 3 4 5 0 1");
+        Checks.due("film", Houses.frames(house), "2 3 4 5 0 1");
         Checks.due("starts", house.startOf(0) + " " + house.startOf(1) + " " + house.startOf(2), "4 0 3");
         Checks.due("lengthOf(1)", house.lengthOf(1), 3);
         Checks.due("placeOf(0, 0)", house.placeOf(0, 0), 4);
         Checks.due("move(2, 3, 2)", house.move(2, 3, 2), 0);
         Checks.due("move(0, 6, 0)", house.move(0, 6, 0), 0);
         Checks.due("move(4, 2, 0)", house.move(4, 2, 0), 3);
-        Checks.due("film", film(house), "0 1 2 3 4 5");
+        Checks.due("film", Houses.frames(house), "0 1 2 3 4 5");
         Checks.due("move(1, 1, 2)", house.move(1, 1, 2), 1);
-        Checks.due("film", film(house), "0 2 1 3 4 5");
+        Checks.due("film", Houses.frames(house), "0 2 1 3 4 5");
         Checks.due("a shorter one at the same start", house.startOf(0) + " " + house.lengthOf(0), "0 1");
         Checks.due("the other one", house.startOf(1) + " " + house.lengthOf(1), "1 4");
     }
 
     private static void moveRefused() {
-        CaptionHouse house = shots(5);
+        CaptionHouse house = Houses.film(5);
         house.add(1, 2);
         Checks.noIndex(house, "move(-1, 1, 0)", () -> house.move(-1, 1, 0));
         Checks.noIndex(house, "move(5, 0, 0)", () -> house.move(5, 0, 0));
@@ -135,22 +119,22 @@ final class FilmTest {
     }
 
     private static void putBack() {
-        CaptionHouse house = shots(5, 3);
+        CaptionHouse house = Houses.film(5, 3);
         house.cut(1, 6);
-        Checks.due("film", film(house), "0 1002");
+        Checks.due("film", Houses.frames(house), "0 1002");
         Checks.due("putBack(0, 2, 3, 0)", house.putBack(0, 2, 3, 0), 5);
-        Checks.due("film", film(house), "2 3 4 0 1002");
+        Checks.due("film", Houses.frames(house), "2 3 4 0 1002");
         Checks.due("putBack(1, 0, 1, 5)", house.putBack(1, 0, 1, 5), 6);
         Checks.due("putBack(0, 1, 1, 3)", house.putBack(0, 1, 1, 3), 7);
-        Checks.due("film", film(house), "2 3 4 1 0 1002 1000");
+        Checks.due("film", Houses.frames(house), "2 3 4 1 0 1002 1000");
         Checks.due("placeOf(1, 0)", house.placeOf(1, 0), 6);
         house.cut(0, 7);
         Checks.due("putBack(0, 0, 5, 0)", house.putBack(0, 0, 5, 0), 5);
-        Checks.due("film", film(house), "0 1 2 3 4");
+        Checks.due("film", Houses.frames(house), "0 1 2 3 4");
     }
 
     private static void putBackRefused() {
-        CaptionHouse house = shots(5, 3);
+        CaptionHouse house = Houses.film(5, 3);
         house.add(0, 8);
         house.cut(1, 3);
         Checks.noIndex(house, "putBack(2, 0, 1, 0)", () -> house.putBack(2, 0, 1, 0));
@@ -171,7 +155,7 @@ final class FilmTest {
     }
 
     private static void places() {
-        CaptionHouse house = shots(2, 400);
+        CaptionHouse house = Houses.film(2, 400);
         Checks.due("frames()", house.frames(), 402);
         Checks.due("frameAt(1)", house.frameAt(1), 1);
         Checks.due("frameAt(401)", house.frameAt(401), 1399);
@@ -189,7 +173,7 @@ final class FilmTest {
     }
 
     private static void boundaries() {
-        CaptionHouse house = shots(400, 3);
+        CaptionHouse house = Houses.film(400, 3);
         Checks.due("isBoundary(0)", house.isBoundary(0), false);
         Checks.due("isBoundary(399)", house.isBoundary(399), false);
         Checks.due("isBoundary(400)", house.isBoundary(400), true);

@@ -19,7 +19,7 @@ final class FormatsTest {
         CaptionHouse house = new CaptionHouse();
         house.addShot(400);
         house.add(from, count);
-        TextsTest.type(house, 0, 0, text);
+        Houses.type(house, 0, 0, text);
         return house;
     }
 
@@ -34,7 +34,7 @@ final class FormatsTest {
         Checks.due("two rows", page(house, 0, 0), "1\n0:00:00 > 0:00:24\none\ntwo\n\n");
         Checks.due("another tongue", page(house, 0, 1), "");
         house.setLimits(5, 15);
-        TextsTest.type(house, 0, 2, "abc def");
+        Houses.type(house, 0, 2, "abc def");
         Checks.due("a split", page(house, 0, 2), "1\n0:00:00 > 0:00:24\nabc\ndef\n\n");
         house.setLook(0, CaptionHouse.SIGN);
         Checks.due("a SIGN", page(house, 0, 0), "1\n0:00:00 > 0:00:24\none\ntwo\n\n");
@@ -60,7 +60,7 @@ final class FormatsTest {
         CaptionHouse house = house(0, 25, "la");
         house.setLook(0, CaptionHouse.SONG);
         Checks.due("one row", page(house, 0, 0), "1\n0:00:00 > 0:01:00\n\u266a la \u266a\n\n");
-        TextsTest.type(house, 0, 0, "\nli\nlo");
+        Houses.type(house, 0, 0, "\nli\nlo");
         Checks.due("three rows", page(house, 0, 0), "1\n0:00:00 > 0:01:00\n\u266a la\nli\nlo \u266a\n\n");
     }
 
@@ -69,10 +69,10 @@ final class FormatsTest {
         for (int from : new int[] {10, 50, 20, 60, 5}) {
             house.add(from, 5);
         }
-        TextsTest.type(house, 1, 0, "a");
-        TextsTest.type(house, 2, 0, "d");
-        TextsTest.type(house, 4, 0, "e");
-        TextsTest.type(house, 5, 0, "b");
+        Houses.type(house, 1, 0, "a");
+        Houses.type(house, 2, 0, "d");
+        Houses.type(house, 4, 0, "e");
+        Houses.type(house, 5, 0, "b");
         Checks.due("by starts", page(house, 1, 0), "{5}{10}b\n{10}{15}a\n{50}{55}c\n{50}{55}d\n{60}{65}e\n");
         house.cut(10, 5);
         Checks.due("without those that are out", page(house, 0, 0),
@@ -106,7 +106,7 @@ final class FormatsTest {
         for (int i = 0; i < 16; i++) {
             house.add(4000, 250);
             house.setLook(i, CaptionHouse.SONG);
-            TextsTest.type(house, i, 0, "\ud83d\ude00".repeat(60));
+            Houses.type(house, i, 0, "\ud83d\ude00".repeat(60));
             due.append(i + 1).append("\n2:40:00 > 2:50:00\n\u266a ").append("\ud83d\ude00".repeat(60)).append(" \u266a\n\n");
         }
         Checks.due("the longest page", page(house, 0, 0), due);

@@ -50,7 +50,7 @@ final class LimitsTest {
         CaptionHouse house = full();
         for (int caption = 0; caption < 16; caption++) {
             for (int tongue = 2; tongue >= 0; tongue--) {
-                TextsTest.type(house, caption, tongue, new String(Character.toChars(1000 + 3 * caption + tongue)).repeat(60));
+                Houses.type(house, caption, tongue, new String(Character.toChars(1000 + 3 * caption + tongue)).repeat(60));
             }
         }
         for (int caption = 0; caption < 16; caption++) {
@@ -74,12 +74,12 @@ final class LimitsTest {
     private static void fullMemories() {
         CaptionHouse house = full();
         for (int i = 0; i < 8; i++) {
-            TextsTest.type(house, i, 0, original(i));
+            Houses.type(house, i, 0, original(i));
             for (int tongue = 1; tongue < 3; tongue++) {
-                TextsTest.type(house, i, tongue, made(i, tongue));
+                Houses.type(house, i, tongue, made(i, tongue));
                 Checks.due("confirm", house.confirm(i, tongue), i + 1);
             }
-            TextsTest.type(house, 15 - i, 0, original(i));
+            Houses.type(house, 15 - i, 0, original(i));
         }
         for (int tongue = 1; tongue < 3; tongue++) {
             Checks.due("fill", house.fill(tongue), 8);

@@ -22,20 +22,8 @@ final class RulesTest {
         Checks.end("RulesTest");
     }
 
-    private static CaptionHouse film(int... shots) {
-        CaptionHouse house = new CaptionHouse();
-        for (int frames : shots) {
-            house.addShot(frames);
-        }
-        return house;
-    }
-
-    private static boolean breaks(CaptionHouse house, int caption, int tongue, int rule) {
-        return (house.broken(caption, tongue) >> rule & 1) == 1;
-    }
-
     private static void emptyAndOut() {
-        CaptionHouse house = film(100);
+        CaptionHouse house = Houses.film(100);
         house.add(0, 50);
         Checks.due("EMPTY", house.broken(0, 0) + " " + house.broken(0, 1) + " " + house.broken(0, 2), "1 1 1");
         house.type(0, 1, 'a');
@@ -49,55 +37,55 @@ final class RulesTest {
     }
 
     private static void wide() {
-        CaptionHouse house = film(300);
+        CaptionHouse house = Houses.film(300);
         house.add(0, 250);
         house.setLimits(5, 50);
-        TextsTest.type(house, 0, 0, "abcde\nfghij");
-        Checks.due("two rows that fit", breaks(house, 0, 0, CaptionHouse.WIDE), false);
+        Houses.type(house, 0, 0, "abcde\nfghij");
+        Checks.due("two rows that fit", Houses.breaks(house, 0, 0, CaptionHouse.WIDE), false);
         house.type(0, 0, 'k');
-        Checks.due("a row too wide", breaks(house, 0, 0, CaptionHouse.WIDE), true);
+        Checks.due("a row too wide", Houses.breaks(house, 0, 0, CaptionHouse.WIDE), true);
         house.erase(0, 0);
         house.type(0, 0, '\n');
-        Checks.due("three rows", breaks(house, 0, 0, CaptionHouse.WIDE), true);
-        TextsTest.type(house, 0, 1, "abc abc");
-        Checks.due("two rows by a split", breaks(house, 0, 1, CaptionHouse.WIDE), false);
-        TextsTest.type(house, 0, 1, "\nd");
-        Checks.due("three rows by a split", breaks(house, 0, 1, CaptionHouse.WIDE), true);
+        Checks.due("three rows", Houses.breaks(house, 0, 0, CaptionHouse.WIDE), true);
+        Houses.type(house, 0, 1, "abc abc");
+        Checks.due("two rows by a split", Houses.breaks(house, 0, 1, CaptionHouse.WIDE), false);
+        Houses.type(house, 0, 1, "\nd");
+        Checks.due("three rows by a split", Houses.breaks(house, 0, 1, CaptionHouse.WIDE), true);
         house.cut(0, 250);
-        Checks.due("one that is out", breaks(house, 0, 1, CaptionHouse.WIDE), true);
+        Checks.due("one that is out", Houses.breaks(house, 0, 1, CaptionHouse.WIDE), true);
     }
 
     private static void fast() {
-        CaptionHouse house = film(300);
+        CaptionHouse house = Houses.film(300);
         house.add(0, 5);
-        TextsTest.type(house, 0, 0, "abc");
-        Checks.due("75 of 75", breaks(house, 0, 0, CaptionHouse.FAST), false);
+        Houses.type(house, 0, 0, "abc");
+        Checks.due("75 of 75", Houses.breaks(house, 0, 0, CaptionHouse.FAST), false);
         house.type(0, 0, 769);
-        Checks.due("a sign without width", breaks(house, 0, 0, CaptionHouse.FAST), false);
+        Checks.due("a sign without width", Houses.breaks(house, 0, 0, CaptionHouse.FAST), false);
         house.type(0, 0, 'd');
-        Checks.due("100 of 75", breaks(house, 0, 0, CaptionHouse.FAST), true);
+        Checks.due("100 of 75", Houses.breaks(house, 0, 0, CaptionHouse.FAST), true);
         house.setLimits(32, 20);
-        Checks.due("100 of 100", breaks(house, 0, 0, CaptionHouse.FAST), false);
+        Checks.due("100 of 100", Houses.breaks(house, 0, 0, CaptionHouse.FAST), false);
         house.setLimits(32, 19);
-        Checks.due("100 of 95", breaks(house, 0, 0, CaptionHouse.FAST), true);
+        Checks.due("100 of 95", Houses.breaks(house, 0, 0, CaptionHouse.FAST), true);
         house.lay(0, 0, 6);
-        Checks.due("100 of 114", breaks(house, 0, 0, CaptionHouse.FAST), false);
+        Checks.due("100 of 114", Houses.breaks(house, 0, 0, CaptionHouse.FAST), false);
         house.cut(3, 3);
-        Checks.due("100 of 57", breaks(house, 0, 0, CaptionHouse.FAST), true);
+        Checks.due("100 of 57", Houses.breaks(house, 0, 0, CaptionHouse.FAST), true);
         house.cut(0, 3);
-        Checks.due("one that is out", breaks(house, 0, 0, CaptionHouse.FAST), false);
-        CaptionHouse atFirst = film(25);
+        Checks.due("one that is out", Houses.breaks(house, 0, 0, CaptionHouse.FAST), false);
+        CaptionHouse atFirst = Houses.film(25);
         atFirst.add(0, 25);
-        TextsTest.type(atFirst, 0, 0, "fifteen signs..");
-        Checks.due("375 of 375 at first", breaks(atFirst, 0, 0, CaptionHouse.FAST), false);
+        Houses.type(atFirst, 0, 0, "fifteen signs..");
+        Checks.due("375 of 375 at first", Houses.breaks(atFirst, 0, 0, CaptionHouse.FAST), false);
         atFirst.type(0, 0, '.');
-        Checks.due("400 of 375 at first", breaks(atFirst, 0, 0, CaptionHouse.FAST), true);
+        Checks.due("400 of 375 at first", Houses.breaks(atFirst, 0, 0, CaptionHouse.FAST), true);
     }
 
     private static boolean hangs(int from, int count) {
-        CaptionHouse house = film(100, 100);
+        CaptionHouse house = Houses.film(100, 100);
         house.add(from, count);
-        return breaks(house, 0, 0, CaptionHouse.HANG);
+        return Houses.breaks(house, 0, 0, CaptionHouse.HANG);
     }
 
     private static void hang() {
@@ -111,25 +99,25 @@ final class RulesTest {
         Checks.due("a boundary at the end", hangs(50, 50), false);
         Checks.due("one place", hangs(99, 1), false);
         Checks.due("two places", hangs(99, 2), true);
-        CaptionHouse house = film(100, 100);
+        CaptionHouse house = Houses.film(100, 100);
         house.add(99, 50);
         house.cut(99, 50);
-        Checks.due("one that is out", breaks(house, 0, 0, CaptionHouse.HANG), false);
+        Checks.due("one that is out", Houses.breaks(house, 0, 0, CaptionHouse.HANG), false);
     }
 
     private static void hangOfLongOnes() {
-        CaptionHouse house = film(100, 20, 100);
+        CaptionHouse house = Houses.film(100, 20, 100);
         house.add(80, 60);
-        Checks.due("far ones", breaks(house, 0, 0, CaptionHouse.HANG), false);
+        Checks.due("far ones", Houses.breaks(house, 0, 0, CaptionHouse.HANG), false);
         house.cut(85, 1);
-        Checks.due("a gap in a shot", breaks(house, 0, 0, CaptionHouse.HANG), true);
+        Checks.due("a gap in a shot", Houses.breaks(house, 0, 0, CaptionHouse.HANG), true);
     }
 
     private static boolean isClose(int otherFrom, int otherCount) {
-        CaptionHouse house = film(200);
+        CaptionHouse house = Houses.film(200);
         house.add(50, 10);
         house.add(otherFrom, otherCount);
-        return breaks(house, 0, 0, CaptionHouse.CLOSE);
+        return Houses.breaks(house, 0, 0, CaptionHouse.CLOSE);
     }
 
     private static void close() {
@@ -139,21 +127,21 @@ final class RulesTest {
         Checks.due("at the end", isClose(60, 3), true);
         Checks.due("1 behind the end", isClose(61, 3), true);
         Checks.due("2 behind the end", isClose(62, 3), false);
-        CaptionHouse house = film(200);
+        CaptionHouse house = Houses.film(200);
         house.add(50, 10);
         house.add(50, 10);
-        Checks.due("the greater number", breaks(house, 1, 0, CaptionHouse.CLOSE), false);
-        Checks.due("the lower number", breaks(house, 0, 2, CaptionHouse.CLOSE), true);
+        Checks.due("the greater number", Houses.breaks(house, 1, 0, CaptionHouse.CLOSE), false);
+        Checks.due("the lower number", Houses.breaks(house, 0, 2, CaptionHouse.CLOSE), true);
         house.lay(1, 61, 5);
         house.cut(61, 5);
-        Checks.due("the other one is out", breaks(house, 0, 0, CaptionHouse.CLOSE), false);
+        Checks.due("the other one is out", Houses.breaks(house, 0, 0, CaptionHouse.CLOSE), false);
         house.lay(1, 61, 5);
         house.cut(50, 10);
-        Checks.due("it is out", breaks(house, 0, 0, CaptionHouse.CLOSE), false);
+        Checks.due("it is out", Houses.breaks(house, 0, 0, CaptionHouse.CLOSE), false);
     }
 
     private static void closeOfSigns() {
-        CaptionHouse house = film(200);
+        CaptionHouse house = Houses.film(200);
         house.add(50, 10);
         house.add(55, 10);
         for (int look = 0; look < 4; look++) {
@@ -161,13 +149,13 @@ final class RulesTest {
                 house.setLook(0, look);
                 house.setLook(1, other);
                 boolean due = (look == CaptionHouse.SIGN) == (other == CaptionHouse.SIGN);
-                Checks.due("looks " + look + " and " + other, breaks(house, 0, 0, CaptionHouse.CLOSE), due);
+                Checks.due("looks " + look + " and " + other, Houses.breaks(house, 0, 0, CaptionHouse.CLOSE), due);
             }
         }
     }
 
     private static void stale() {
-        CaptionHouse house = film(200);
+        CaptionHouse house = Houses.film(200);
         house.add(50, 50);
         house.type(0, 1, 'a');
         house.type(0, 0, 'b');
@@ -175,11 +163,11 @@ final class RulesTest {
     }
 
     private static boolean lacksVoices(String text) {
-        CaptionHouse house = film(200);
+        CaptionHouse house = Houses.film(200);
         house.add(0, 100);
         house.setLook(0, CaptionHouse.TWO);
-        TextsTest.type(house, 0, 1, text);
-        return breaks(house, 0, 1, CaptionHouse.VOICES);
+        Houses.type(house, 0, 1, text);
+        return Houses.breaks(house, 0, 1, CaptionHouse.VOICES);
     }
 
     private static void voices() {
@@ -194,20 +182,20 @@ final class RulesTest {
         Checks.due("no dash in the first one", lacksVoices("a\n-b"), true);
         Checks.due("no dash in the second one", lacksVoices("-a\nb"), true);
         Checks.due("a dash too late", lacksVoices("-a\n -b"), true);
-        CaptionHouse house = film(200);
+        CaptionHouse house = Houses.film(200);
         house.add(0, 100);
         house.type(0, 0, 'a');
         for (int look = 0; look < 4; look++) {
             house.setLook(0, look);
-            Checks.due("look " + look, breaks(house, 0, 0, CaptionHouse.VOICES), look == CaptionHouse.TWO);
+            Checks.due("look " + look, Houses.breaks(house, 0, 0, CaptionHouse.VOICES), look == CaptionHouse.TWO);
         }
         house.setLook(0, CaptionHouse.TWO);
         house.cut(0, 100);
-        Checks.due("one that is out", breaks(house, 0, 0, CaptionHouse.VOICES), true);
+        Checks.due("one that is out", Houses.breaks(house, 0, 0, CaptionHouse.VOICES), true);
     }
 
     private static void letGo() {
-        CaptionHouse house = film(100, 100);
+        CaptionHouse house = Houses.film(100, 100);
         house.add(95, 50);
         Checks.due("letGo", house.letGo(0, 1, CaptionHouse.HANG, 99), 0);
         Checks.due("letGo again", house.letGo(0, 1, CaptionHouse.HANG, 1), 99);
@@ -228,7 +216,7 @@ final class RulesTest {
     }
 
     private static void letGoEnds() {
-        CaptionHouse house = film(100, 100);
+        CaptionHouse house = Houses.film(100, 100);
         house.add(95, 50);
         house.add(95, 50);
         for (int tongue = 0; tongue < 3; tongue++) {
@@ -250,7 +238,7 @@ final class RulesTest {
     }
 
     private static void letGoRefused() {
-        CaptionHouse house = film(100);
+        CaptionHouse house = Houses.film(100);
         house.add(0, 50);
         house.type(0, 1, 'a');
         for (int rule = 1; rule < 8; rule++) {
@@ -275,7 +263,7 @@ final class RulesTest {
     }
 
     private static void faults() {
-        CaptionHouse house = film(100, 100);
+        CaptionHouse house = Houses.film(100, 100);
         house.add(95, 50);
         house.add(95, 50);
         Checks.due("faults", house.faults(0) + " " + house.faults(1) + " " + house.faults(2), "5 5 5");

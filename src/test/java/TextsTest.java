@@ -31,20 +31,8 @@ final class TextsTest {
     private static CaptionHouse typed(String text) {
         CaptionHouse house = house();
         house.setLimits(10, 15);
-        type(house, 0, 0, text);
+        Houses.type(house, 0, 0, text);
         return house;
-    }
-
-    static void type(CaptionHouse house, int caption, int tongue, String text) {
-        text.codePoints().forEach(sign -> house.type(caption, tongue, sign));
-    }
-
-    private static String rows(CaptionHouse house) {
-        StringBuilder rows = new StringBuilder();
-        for (int i = 0; i < house.rows(0, 0); i++) {
-            rows.append(i > 0 ? " " : "").append(house.row(0, 0, i));
-        }
-        return rows.toString();
     }
 
     private static void type() {
@@ -86,7 +74,7 @@ final class TextsTest {
 
     private static void erase() {
         CaptionHouse house = house();
-        type(house, 0, 1, "ab\n");
+        Houses.type(house, 0, 1, "ab\n");
         Checks.due("erase", house.erase(0, 1), 10);
         Checks.due("erase", house.erase(0, 1), 98);
         Checks.noState(house, "erase in an empty text", () -> house.erase(0, 0));
@@ -100,7 +88,7 @@ final class TextsTest {
 
     private static void signAt() {
         CaptionHouse house = house();
-        type(house, 0, 0, "xyz");
+        Houses.type(house, 0, 0, "xyz");
         Checks.due("signAt", house.signAt(0, 0, 0) + " " + house.signAt(0, 0, 2), "120 122");
         house.erase(0, 0);
         Checks.noIndex(house, "signAt(0, 0, 2)", () -> house.signAt(0, 0, 2));
@@ -132,53 +120,53 @@ final class TextsTest {
     }
 
     private static void parts() {
-        Checks.due("rows of an empty text", rows(typed("")), "");
-        Checks.due("one break", rows(typed("\n")), "0 101");
-        Checks.due("empty parts", rows(typed("\nab\n\n")), "0 103 404 505");
-        Checks.due("short parts", rows(typed("ab\ncd")), "2 305");
-        Checks.due("a part as wide as a row", rows(typed("abcd fghij")), "10");
+        Checks.due("rows of an empty text", Houses.rows(typed("")), "");
+        Checks.due("one break", Houses.rows(typed("\n")), "0 101");
+        Checks.due("empty parts", Houses.rows(typed("\nab\n\n")), "0 103 404 505");
+        Checks.due("short parts", Houses.rows(typed("ab\ncd")), "2 305");
+        Checks.due("a part as wide as a row", Houses.rows(typed("abcd fghij")), "10");
         CaptionHouse breaks = typed("\n".repeat(60));
         Checks.due("rows of 60 breaks", breaks.rows(0, 0), 61);
         Checks.due("the last one", breaks.row(0, 0, 60), 6060);
     }
 
     private static void splitBySense() {
-        Checks.due("the middle one", rows(typed("ab cde fgh ij")), "6 713");
-        Checks.due("a comma is dearer to sense", rows(typed("abc, efg ijk")), "4 512");
+        Checks.due("the middle one", Houses.rows(typed("ab cde fgh ij")), "6 713");
+        Checks.due("a comma is dearer to sense", Houses.rows(typed("abc, efg ijk")), "4 512");
         for (String stop : new String[] {".", ",", ";", ":", "!", "?"}) {
-            Checks.due("behind " + stop, rows(typed("ab" + stop + " efgh jklm")), "3 413");
+            Checks.due("behind " + stop, Houses.rows(typed("ab" + stop + " efgh jklm")), "3 413");
         }
-        Checks.due("no stop", rows(typed("ab- efgh jklm")), "8 913");
-        Checks.due("4 more behind a stop is cheaper than 5", rows(typed("abcdef g, jklm")), "9 1014");
-        Checks.due("6 more behind a stop is dearer than 5", rows(typed("ab, cd efghijk")), "6 714");
-        Checks.due("the same cost: the first one", rows(typed("abcd f hijk")), "4 511");
-        Checks.due("each part for itself", rows(typed("aaaaaa aaaaaa\nbb\nccccc cccccc")), "6 713 1416 1722 2329");
+        Checks.due("no stop", Houses.rows(typed("ab- efgh jklm")), "8 913");
+        Checks.due("4 more behind a stop is cheaper than 5", Houses.rows(typed("abcdef g, jklm")), "9 1014");
+        Checks.due("6 more behind a stop is dearer than 5", Houses.rows(typed("ab, cd efghijk")), "6 714");
+        Checks.due("the same cost: the first one", Houses.rows(typed("abcd f hijk")), "4 511");
+        Checks.due("each part for itself", Houses.rows(typed("aaaaaa aaaaaa\nbb\nccccc cccccc")), "6 713 1416 1722 2329");
     }
 
     private static void splitByWidth() {
         CaptionHouse house = house();
         house.setLimits(6, 15);
-        type(house, 0, 0, "\u4e2d\u4e2d \u0301bc\u0301d");
-        Checks.due("wide signs", rows(house), "2 308");
+        Houses.type(house, 0, 0, "\u4e2d\u4e2d \u0301bc\u0301d");
+        Checks.due("wide signs", Houses.rows(house), "2 308");
         CaptionHouse marks = house();
         marks.setLimits(5, 15);
-        type(marks, 0, 0, "\u0301 abcde");
-        Checks.due("a sign without width", rows(marks), "1 207");
+        Houses.type(marks, 0, 0, "\u0301 abcde");
+        Checks.due("a sign without width", Houses.rows(marks), "1 207");
         CaptionHouse spaces = house();
         spaces.setLimits(5, 15);
-        type(spaces, 0, 0, "  abcd");
-        Checks.due("a space alone is a row", rows(spaces), "1 206");
+        Houses.type(spaces, 0, 0, "  abcd");
+        Checks.due("a space alone is a row", Houses.rows(spaces), "1 206");
     }
 
     private static void notSplit() {
-        Checks.due("no space", rows(typed("abcdefghijk")), "11");
-        Checks.due("nothing ahead of it", rows(typed(" bcdefghijk")), "11");
-        Checks.due("nothing behind it", rows(typed("abcdefghij ")), "11");
-        Checks.due("one sign ahead of it", rows(typed("a cdefghijkl")), "1 212");
-        Checks.due("one sign behind it", rows(typed("abcdefghij l")), "10 1112");
-        Checks.due("too wide behind it", rows(typed("ab defghijklmn")), "14");
-        Checks.due("too wide ahead of it", rows(typed("abcdefghijk mn")), "14");
-        Checks.due("both just fit", rows(typed("abcdefghij lmnopqrstu")), "10 1121");
+        Checks.due("no space", Houses.rows(typed("abcdefghijk")), "11");
+        Checks.due("nothing ahead of it", Houses.rows(typed(" bcdefghijk")), "11");
+        Checks.due("nothing behind it", Houses.rows(typed("abcdefghij ")), "11");
+        Checks.due("one sign ahead of it", Houses.rows(typed("a cdefghijkl")), "1 212");
+        Checks.due("one sign behind it", Houses.rows(typed("abcdefghij l")), "10 1112");
+        Checks.due("too wide behind it", Houses.rows(typed("ab defghijklmn")), "14");
+        Checks.due("too wide ahead of it", Houses.rows(typed("abcdefghijk mn")), "14");
+        Checks.due("both just fit", Houses.rows(typed("abcdefghij lmnopqrstu")), "10 1121");
     }
 
     private static void wrongRows() {
@@ -200,7 +188,7 @@ final class TextsTest {
 
     private static void setLimits() {
         CaptionHouse house = house();
-        type(house, 0, 0, "a".repeat(16) + " " + "b".repeat(16));
+        Houses.type(house, 0, 0, "a".repeat(16) + " " + "b".repeat(16));
         Checks.due("rows at first", house.rows(0, 0), 2);
         house.erase(0, 0);
         Checks.due("rows of a text of width 32", house.rows(0, 0), 1);

@@ -29,14 +29,6 @@ final class TonguesTest {
         return house;
     }
 
-    private static String text(CaptionHouse house, int caption, int tongue) {
-        StringBuilder text = new StringBuilder();
-        for (int i = 0; i < house.signs(caption, tongue); i++) {
-            text.appendCodePoint(house.signAt(caption, tongue, i));
-        }
-        return text.toString();
-    }
-
     private static void clear(CaptionHouse house, int caption, int tongue) {
         while (house.signs(caption, tongue) > 0) {
             house.erase(caption, tongue);
@@ -46,15 +38,15 @@ final class TonguesTest {
     private static void put(CaptionHouse house, int caption, String original, String made) {
         clear(house, caption, 0);
         clear(house, caption, 1);
-        TextsTest.type(house, caption, 0, original);
-        TextsTest.type(house, caption, 1, made);
+        Houses.type(house, caption, 0, original);
+        Houses.type(house, caption, 1, made);
     }
 
     /** What the memory of the tongue 1 has for a text, told by filling a caption, which counts as a use. */
     private static String remembered(CaptionHouse house, int caption, String original) {
         put(house, caption, original, "");
         house.fill(1);
-        return text(house, caption, 1);
+        return Houses.text(house, caption, 1);
     }
 
     private static void stale() {
@@ -132,14 +124,14 @@ final class TonguesTest {
         house.erase(4, 0);
         house.type(4, 0, 'a');
         Checks.due("fill(1)", house.fill(1), 2);
-        Checks.due("an empty one", text(house, 1, 1), "x");
-        Checks.due("one that is not stale", text(house, 2, 1), "own");
-        Checks.due("another text", text(house, 3, 1), "");
-        Checks.due("a stale one", text(house, 4, 1), "x");
+        Checks.due("an empty one", Houses.text(house, 1, 1), "x");
+        Checks.due("one that is not stale", Houses.text(house, 2, 1), "own");
+        Checks.due("another text", Houses.text(house, 3, 1), "");
+        Checks.due("a stale one", Houses.text(house, 4, 1), "x");
         Checks.due("not stale any more", house.isStale(4, 1), false);
         Checks.due("fill(1) again", house.fill(1), 0);
         house.erase(1, 1);
-        Checks.due("one that was erased", house.fill(1) + " " + text(house, 1, 1), "1 x");
+        Checks.due("one that was erased", house.fill(1) + " " + Houses.text(house, 1, 1), "1 x");
         Checks.due("fill(2)", house.fill(2), 0);
         Checks.due("memory(1)", house.memory(1), 1);
     }
@@ -154,11 +146,11 @@ final class TonguesTest {
         house.erase(0, 0);
         Checks.due("fill(1)", house.fill(1), 1);
         Checks.due("the other tongue stays stale", house.isStale(0, 1) + " " + house.isStale(0, 2), "false true");
-        Checks.due("a later change is its own", text(house, 0, 1), "x");
+        Checks.due("a later change is its own", Houses.text(house, 0, 1), "x");
         house.type(0, 1, '!');
         put(house, 1, "a", "");
         house.fill(1);
-        Checks.due("what is kept is a copy", text(house, 1, 1), "x");
+        Checks.due("what is kept is a copy", Houses.text(house, 1, 1), "x");
     }
 
     private static void fillEndsNames() {
