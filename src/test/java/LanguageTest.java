@@ -1,12 +1,14 @@
-import java.io.DataInputStream;
 import java.io.IOException;
 import java.lang.reflect.Method;
 import java.lang.reflect.Modifier;
 import java.nio.file.Files;
 import java.nio.file.Path;
 import java.util.HashSet;
+import java.util.LinkedHashMap;
 import java.util.List;
+import java.util.Map;
 import java.util.Set;
+import java.util.TreeSet;
 import java.util.regex.Pattern;
 import java.util.stream.Collectors;
 import java.util.stream.Stream;
@@ -20,6 +22,12 @@ final class LanguageTest {
     private static final List<String> WORDS = List.of("package", "finally", "synchronized", "assert", "try", "catch", "instanceof",
         "float", "double", "protected", "static\\s*\\{", "->", "::", "\\+\\s*\"", "\"\\s*\\+");
 
+    private static final int DEPTH = 8;
+    /** These alone touch an array by an index, and each of them looks at the index first: one that is new here is read for that. */
+    private static final Set<String> ARRAYS = new TreeSet<>(Set.of("CaptionHouse.item", "CaptionHouse.store", "CaptionHouse.isBehind",
+        "CaptionHouse.setBehind", "CaptionHouse$Film.marksAt", "CaptionHouse$Film.unmark", "CaptionHouse$Film.renumber",
+        "CaptionHouse$Page.at", "CaptionHouse$Page.writeUnit"));
+
     private LanguageTest() {
     }
 
@@ -31,10 +39,17 @@ final class LanguageTest {
         List<Class<?>> classes = Stream.concat(Stream.of(CaptionHouse.class), Stream.of(CaptionHouse.class.getDeclaredClasses()))
             .collect(Collectors.toList());
         Checks.holds("at most 12 classes", classes.size() <= 12);
+        Map<String, Set<String>> calls = new LinkedHashMap<>();
+        Set<String> touching = new TreeSet<>();
         for (Class<?> one : classes) {
             members(one);
-            library(one);
+            ClassFile file = new ClassFile(one);
+            calls.putAll(file.calls());
+            touching.addAll(file.touching());
         }
+        library(calls);
+        callsAreNotDeep(calls);
+        Checks.due("what touches arrays", touching, ARRAYS);
         Checks.end("LanguageTest");
     }
 
@@ -91,56 +106,33 @@ final class LanguageTest {
         }
     }
 
-    private static void library(Class<?> one) throws IOException {
-        for (String called : calledBy(one)) {
-            Checks.holds(called + " in the library", called.startsWith("CaptionHouse") || LIBRARY.contains(called));
+    private static void library(Map<String, Set<String>> calls) {
+        for (Set<String> called : calls.values()) {
+            for (String name : called) {
+                Checks.holds(name + " in the library", calls.containsKey(name) || LIBRARY.contains(name));
+            }
         }
     }
 
-    /** The methods to which a class file points, read from its constants; one that is made when it runs is told too. */
-    private static Set<String> calledBy(Class<?> one) throws IOException {
-        try (DataInputStream in = new DataInputStream(one.getResourceAsStream("/" + one.getName() + ".class"))) {
-            in.skipBytes(8);
-            int count = in.readUnsignedShort();
-            String[] texts = new String[count];
-            int[][] parts = new int[count][];
-            for (int i = 1; i < count; i++) {
-                i += readConstant(in, i, texts, parts);
-            }
-            Set<String> called = new HashSet<>();
-            for (int[] part : parts) {
-                if (part != null && (part[0] == 10 || part[0] == 11)) {
-                    called.add(texts[parts[part[1]][1]] + "." + texts[parts[part[2]][1]]);
-                }
-                if (part != null && part[0] == 18) {
-                    called.add("a call that is made when it runs");
-                }
-            }
-            return called;
+    /** Calls go at most eight deep; one that came back to itself would go on deeper, and is seen here too. */
+    private static void callsAreNotDeep(Map<String, Set<String>> calls) {
+        Checks.holds("there are calls to look at", calls.size() > 34);
+        for (String name : calls.keySet()) {
+            Checks.due("a chain of more than " + DEPTH + " calls", deeper(calls, name, DEPTH), "");
         }
     }
 
-    private static int readConstant(DataInputStream in, int i, String[] texts, int[][] parts) throws IOException {
-        int tag = in.readUnsignedByte();
-        switch (tag) {
-            case 1:
-                texts[i] = in.readUTF();
-                return 0;
-            case 5, 6:
-                in.readLong();
-                return 1;
-            case 7, 8, 16, 19, 20:
-                parts[i] = new int[] {tag, in.readUnsignedShort()};
-                return 0;
-            case 15:
-                in.skipBytes(3);
-                return 0;
-            case 3, 4:
-                in.readInt();
-                return 0;
-            default:
-                parts[i] = new int[] {tag, in.readUnsignedShort(), in.readUnsignedShort()};
-                return 0;
+    /** A chain that begins with this call, and is longer than that; empty if there is none. */
+    private static String deeper(Map<String, Set<String>> calls, String name, int most) {
+        if (most == 0) {
+            return name;
         }
+        for (String called : calls.getOrDefault(name, Set.of())) {
+            String chain = deeper(calls, called, most - 1);
+            if (!chain.isEmpty()) {
+                return name + ", " + chain;
+            }
+        }
+        return "";
     }
 }
